@@ -364,7 +364,7 @@ public final class Colourmap {
         int lowest = Sets.pieceCount(map);
         for (int i = 0; i <= top; i++) {
             int due = i < lowest ? 0 : (top - i) % 2 == 0 ? 1 : -1;
-            if (Long.signum(polynomial.factor(i)) != due) {
+            if (Long.compare(polynomial.factor(i), 0) != due) {
                 return false;
             }
         }
@@ -413,13 +413,16 @@ public final class Colourmap {
 
     private boolean fewestHolds() {
         int least = polynomial.leastSets();
-        return polynomial.at(2) > 0 == Sets.noOddRing(map)
+        return (polynomial.at(2) > 0) == Sets.noOddRing(map)
             && map.size() <= least * Sets.mostApart(map)
             && least >= Sets.mostTogether(map)
             && colours.countInRow(map) >= least;
     }
 
-    /** Places with the ways between them: for each place the set of its neighbours, a bit for each. */
+    /**
+     * Places with the ways between them: for each place the set of its neighbours, a bit for each.
+     * Its methods look at each number that they take, so that no row is ever left, whatever is asked.
+     */
     private static final class Chart {
         private int count = 0;
         private final int[] rows = new int[MOST_PLACES];
@@ -895,7 +898,7 @@ public final class Colourmap {
 
     /**
      * A whole number in ten parts of 32 binary digits, the lowest first, below 0 by the two's complement.
-     * No value needs more than 281 digits: nine places, each with ways to all others, at -2 to the power of 31.
+     * No value needs more than 280 digits and a sign: nine places, each with ways to all others, at -2 to the power of 31.
      */
     private static final class Whole {
         private static final int PARTS = 10;
@@ -960,9 +963,9 @@ public final class Colourmap {
 
         /** How many binary digits there are, of a number that is not below 0. */
         int binaryDigits() {
-            for (int i = PARTS - 1; i >= 0; i--) {
-                if (parts[i] != 0) {
-                    return PART_BITS * i + 64 - Long.numberOfLeadingZeros(parts[i]);
+            for (int i = PARTS * PART_BITS - 1; i >= 0; i--) {
+                if ((parts[i / PART_BITS] >> i % PART_BITS & 1) != 0) {
+                    return i + 1;
                 }
             }
             return 0;

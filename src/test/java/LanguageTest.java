@@ -112,6 +112,8 @@ public final class LanguageTest {
             for (Method method : one.getDeclaredMethods()) {
                 check.no(method + " is public", Modifier.isPublic(method.getModifiers()));
                 check.yes(method + " takes at most seven", method.getParameterCount() <= 7);
+                check.no(method + " has a name of the face", Arrays.stream(FACE)
+                    .anyMatch(shown -> shown.contains(" " + method.getName() + "(")));
             }
         }
     }
