@@ -9,11 +9,21 @@ final class Check {
 
     private int looked = 0;
     private int wrong = 0;
+    private String about = "";
+
+    /** What is told ahead of each fault from now on. */
+    void about(String what) {
+        about = what;
+    }
+
+    int looked() {
+        return looked;
+    }
 
     void same(String what, Object got, Object want) {
         looked++;
         if (!want.equals(got)) {
-            tell(what + " answered " + got + ", due is " + want);
+            tell(about + what + " answered " + got + ", due is " + want);
         }
     }
 

@@ -10,7 +10,7 @@ public final class SmallMapsTest {
     private static final int MOST = 5;
 
     private final Check check = new Check();
-    private final Colourmap due = new Colourmap();
+    private Colourmap due;
     private boolean[][] joined;
     private String name;
 
@@ -29,6 +29,7 @@ public final class SmallMapsTest {
     private void build(int places, int set) {
         joined = new boolean[places][places];
         name = "map " + places + "/" + set + ": ";
+        due = new Colourmap();
         due.begin(places);
         int pair = 0;
         for (int a = 0; a < places; a++) {
