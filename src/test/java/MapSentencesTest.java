@@ -36,6 +36,9 @@ public final class MapSentencesTest extends Sentences {
         check.same("checksum", x.checksum(), ((7L * 31 * 31 + 1) * 31) * 31);
         Colourmap other = Maps.complete(9);
         other.keep();
+        Colourmap beside = Maps.mapOf(9);
+        check.same("map of the other one", Maps.text(other), Maps.text(Maps.complete(9)));
+        check.same("map of one made later", Maps.text(beside), "9");
         check.same("map of another new one", Maps.text(new Colourmap()), "0");
         check.same("spare map of another new one", Maps.spareText(new Colourmap()), "0");
     }
@@ -175,6 +178,7 @@ public final class MapSentencesTest extends Sentences {
             x.leave(p);
             check.same("places", x.places(), 8);
             check.same("pieces without " + p, x.pieces(), p == 0 || p == 8 ? 1 : 2);
+            check.same("map without " + p, Maps.text(x), rowWithABreak(p));
             Colourmap y = Maps.complete(9);
             y.leave(p);
             check.same("map without " + p, Maps.text(y), Maps.text(Maps.complete(8)));
@@ -182,6 +186,15 @@ public final class MapSentencesTest extends Sentences {
         Colourmap last = Maps.mapOf(1);
         last.leave(0);
         check.same("map without the only one", Maps.text(last), "0");
+    }
+
+    /** Eight places in a row without the way that leads to one of them from the one before. */
+    private static String rowWithABreak(int p) {
+        Colourmap x = Maps.row(8);
+        if (p > 0 && p < 8) {
+            x.tear(p - 1, p);
+        }
+        return Maps.text(x);
     }
 
     @Says(promise = 5, words = "Returns how many ways went.")
@@ -471,6 +484,11 @@ public final class MapSentencesTest extends Sentences {
         none.place();
         none.place();
         check.same("map of places that come later", Maps.text(none), "2");
+        Colourmap two = Maps.mapOf(2);
+        two.others();
+        two.place();
+        two.place();
+        check.same("map of two and places that come later", Maps.text(two), "4 01");
     }
 
     @Says(promise = 10, words = "Returns how many ways there are then.")
