@@ -5,10 +5,16 @@ import java.nio.file.Path;
 import java.util.ArrayList;
 import java.util.List;
 import java.util.Set;
+import java.util.regex.Matcher;
+import java.util.regex.Pattern;
 
-/** Each sentence of the document has a test that quotes it, and what the tests quote stands in the document. */
+/**
+ * Each sentence of the document has a test that quotes it, and what the tests quote stands in the document; the class
+ * has the document's face.
+ */
 public final class DocumentTest {
     private static final Path DOCUMENT = Path.of("../shared/DOC.md");
+    private static final Path SOURCE = Path.of("src/main/java/Colourmap.java");
 
     private static final List<Class<? extends Sentences>> TESTS = List.of(
         TermsTest.class, MapSentencesTest.class, PlacesSentencesTest.class, ValuesSentencesTest.class);
@@ -29,9 +35,11 @@ public final class DocumentTest {
             return;
         }
         DocumentTest test = new DocumentTest();
-        List<String> parts = partsOf(Files.readString(DOCUMENT));
+        String document = Files.readString(DOCUMENT);
+        List<String> parts = partsOf(document);
         test.quotesStand(parts);
         test.sentencesAreQuoted(parts);
+        test.faceStands(document, Files.readString(SOURCE));
         test.check.end("DocumentTest");
     }
 
@@ -100,5 +108,49 @@ public final class DocumentTest {
             }
         }
         return lines;
+    }
+
+    /** The class's lines are those of the document, in its order, each of its parts under the line that it says. */
+    private void faceStands(String document, String source) {
+        List<String> want = withHeads(document, faceOf(document));
+        List<String> got = source.substring(0, source.indexOf("// ---- what the calls share")).lines()
+            .filter(line -> line.startsWith("    public ") || line.startsWith("    // ----"))
+            .map(line -> line.trim().replaceFirst(" \\{$", ""))
+            .toList();
+        int alike = 0;
+        while (alike < got.size() && alike < want.size() && got.get(alike).equals(want.get(alike))) {
+            alike++;
+        }
+        check.same("line " + (alike + 1) + " of the face", lineOf(got, alike), lineOf(want, alike));
+        for (String head : List.of("import java.util.NoSuchElementException;", "public final class Colourmap {")) {
+            check.yes("the document shows " + head, document.contains("\n" + head + "\n"));
+            check.yes("the class has " + head, source.lines().anyMatch(head::equals));
+        }
+    }
+
+    private static String lineOf(List<String> lines, int index) {
+        return index < lines.size() ? lines.get(index) : "no line";
+    }
+
+    private static List<String> faceOf(String document) {
+        return document.lines().filter(line -> line.startsWith("    public "))
+            .map(line -> line.trim().replaceFirst(";$", "")).toList();
+    }
+
+    private static List<String> withHeads(String document, List<String> face) {
+        List<String> lines = new ArrayList<>();
+        for (String line : face) {
+            Matcher head = Pattern.compile("(?m)^Ahead of the calls `" + nameOf(line) + "`.* the interface says: (.*)\\.$")
+                .matcher(document);
+            if (head.find()) {
+                lines.add("// " + head.group(1));
+            }
+            lines.add(line);
+        }
+        return lines;
+    }
+
+    private static String nameOf(String line) {
+        return line.substring(line.lastIndexOf(' ', line.indexOf('(')) + 1, line.indexOf('('));
     }
 }
